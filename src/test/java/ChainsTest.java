@@ -14,6 +14,7 @@ public final class ChainsTest {
         join();
         joinThrows();
         joinedKeeps();
+        joinedKeepsEachPlace();
         stale();
         staleOfEachPlace();
         sign();
@@ -146,8 +147,10 @@ public final class ChainsTest {
         Checks.due("without profiles", 0, x.greyGap(0));
         x.add(0, 0);
         Checks.due("a profile at first", 0, x.greyGap(0));
+        x.bend(0, 0, 4, 192);
+        Checks.due("the first darker, most at 255", 63, x.greyGap(0));
         x.bend(0, 0, 4, 245);
-        Checks.due("the first darker at the end alone", 10, x.greyGap(0));
+        Checks.due("the first less dark", 10, x.greyGap(0));
         x.bend(0, 2, 4, 205);
         Checks.due("the third and the second", 50, x.greyGap(0));
         x.bend(0, 1, 4, 195);
@@ -245,6 +248,20 @@ public final class ChainsTest {
         Checks.due("without profiles", 0, x.joined(0, 2, 64));
         Checks.due("joined anew", 0, x.join(0, 0));
         Checks.due("joined anew", 64, x.joined(0, 2, 64));
+    }
+
+    private static void joinedKeepsEachPlace() {
+        int[] places = {0, 64, 128, 192, 255};
+        GamutChain x = with(1, 6);
+        x.add(5, 0);
+        for (int k = 0; k < 15; k++) {
+            x.bend(0, k / 5, k % 5, 100 + k);
+        }
+        x.join(5, 255);
+        x.reach(0, 0, 0, 0);
+        for (int k = 0; k < 15; k++) {
+            Checks.due("kept at a place", 100 + k, x.joined(5, k / 5, places[k % 5]));
+        }
     }
 
     private static void stale() {
