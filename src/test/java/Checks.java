@@ -45,6 +45,16 @@ final class Checks {
         }
     }
 
+    /** The answer of a call that must not throw; for one that throws, a number that no call answers. */
+    static long answerOf(Call call) {
+        try {
+            return call.answer();
+        } catch (RuntimeException e) {
+            System.out.println("thrown: " + e);
+            return Long.MIN_VALUE;
+        }
+    }
+
     static void end() {
         System.out.println(wrong == 0 ? asked + " answers are as due" : wrong + " of " + asked + " answers are not as due");
         if (wrong != 0 || asked == 0) {
