@@ -20,6 +20,8 @@ public final class ChainsTest {
         sign();
         held();
         heldAndJoined();
+        heldAndJoinedAnew();
+        joinedWhateverTheChainHas();
         wrongChains();
         Checks.end();
     }
@@ -365,6 +367,40 @@ public final class ChainsTest {
         Checks.due("through what is held", 9, x.through(0, 0, 9));
         Checks.due("another profile is added", 1, x.profile());
         Checks.due("another chain is added", 1, x.chain());
+    }
+
+    private static void heldAndJoinedAnew() {
+        GamutChain x = with(1, 1);
+        x.add(0, 0);
+        x.join(0, 0);
+        x.bend(0, 0, 4, 200);
+        x.reach(0, 0, 0, 180);
+        x.sign(0);
+        Checks.due("a held chain can be stale", 1, x.stale());
+        Checks.thrown("its gap is above most", Checks.STATE, () -> x.join(0, x.gap(0) - 1));
+        Checks.due("the earlier joining stays", 255, x.joined(0, 0, 255));
+        Checks.due("joined anew while it is held", x.gap(0), x.join(0, 255));
+        Checks.due("in place of the earlier", 180, x.joined(0, 0, 255));
+        Checks.due("not stale any more", 0, x.stale());
+        Checks.yes("held still: the call releases it", !x.sign(0));
+        Checks.due("joined still", 180, x.joined(0, 0, 255));
+    }
+
+    private static void joinedWhateverTheChainHas() {
+        GamutChain x = with(1, 1);
+        x.bend(0, 1, 0, 40);
+        x.join(0, 0);
+        for (int length = 1; length <= 6; length++) {
+            x.add(0, 0);
+            Checks.due("joined still, by the curve of no profile", 7, x.joined(0, 1, 7));
+            Checks.due("and stale", 1, x.stale());
+        }
+        for (int length = 6; length >= 1; length--) {
+            Checks.due("stale until the last is gone", 1, x.stale());
+            x.drop(0);
+            Checks.due("joined still", 7, x.joined(0, 1, 7));
+        }
+        Checks.due("as it was", 0, x.stale());
     }
 
     private static void wrongChains() {
